@@ -618,12 +618,10 @@ public final class KitePower {
     static final int MOST_ACROSS = 6;
     static final int MOVES = 5;
     static final int DRUMS = 3;
-    static final int STAY = 0;
     static final int LEFT = 1;
     static final int RIGHT = 2;
     static final int UP = 3;
     static final int DOWN = 4;
-    static final int HOLD = 0;
     static final int OUT = 1;
     static final int IN = 2;
     /** How many acts a slant has. */
@@ -1273,6 +1271,8 @@ public final class KitePower {
         isBetter = takeBetterMean();
       }
       keepTightPaths();
+      Arrays.fill(layers, NONE);
+      queued = 0;
       int start = NONE;
       int shortest = kite.states + 1;
       for (int s = 0; s < kite.states && shortest > 1; s++) {
@@ -1437,7 +1437,9 @@ public final class KitePower {
      * how far the states are from it. Loops through lesser states were found from those.
      */
     private int shortestFrom(int start, int limit) {
-      Arrays.fill(layers, NONE);
+      for (int i = 0; i < queued; i++) {
+        layers[queue[i]] = NONE;
+      }
       layers[start] = 0;
       queue[0] = start;
       queued = 1;
@@ -1638,7 +1640,6 @@ public final class KitePower {
     }
 
     int countHeld(int hour) {
-      Arrays.fill(ticksLeft, 0);
       for (int s = 0; s < isLost.length; s++) {
         isLost[s] = false;
       }
@@ -1680,6 +1681,8 @@ public final class KitePower {
     static final int MOST_STANDS = 8;
     static final int MOST_SITE = 40;
     private static final int LEAST_APART = 2;
+    /** Farther than any two kites can be. */
+    private static final int FAR_APART = 1000;
 
     private final Kite kite;
     int count;
@@ -1747,7 +1750,7 @@ public final class KitePower {
 
     /** The least apart of two loops, the second one's site being so much to the right. */
     int nearest(Row one, Row two, int between, int k) {
-      int least = Integer.MAX_VALUE;
+      int least = FAR_APART;
       int i = 0;
       int j = k % Math.max(two.length, 1);
       int ticks = one.length * two.length / sharedStep(one.length, two.length);
