@@ -1242,6 +1242,8 @@ public final class KitePower {
     private final int[] acts = new int[MOST_PATHS];
     private final long[] levels = new long[Kite.MOST_STATES];
     private final int[] raisedBy = new int[Kite.MOST_STATES];
+    /** The states raised since their paths were followed: no other can raise more. */
+    private final boolean[] isFresh = new boolean[Kite.MOST_STATES];
     private final int[] marks = new int[Kite.MOST_STATES];
     private final int[] layers = new int[Kite.MOST_STATES];
     private final int[] queue = new int[Kite.MOST_STATES];
@@ -1354,8 +1356,11 @@ public final class KitePower {
 
     /** Raises levels till a loop shows that gives more than the mean, which it becomes, or none can. */
     private boolean takeBetterMean() {
-      Arrays.fill(levels, 0);
-      Arrays.fill(raisedBy, NONE);
+      for (int s = 0; s < kite.states; s++) {
+        levels[s] = 0;
+        raisedBy[s] = NONE;
+        isFresh[s] = true;
+      }
       for (int i = 0; i < MANY && raiseLevels(); i++) {
         if (takeBestRing()) {
           return true;
@@ -1367,14 +1372,25 @@ public final class KitePower {
     private boolean raiseLevels() {
       boolean raised = false;
       for (int s = 0; s < kite.states; s++) {
-        long level = levels[s] - meanSum;
-        for (int path = firsts[s]; path < firsts[s + 1]; path++) {
-          long reached = level + works[path] * meanLength;
-          if (reached > levels[heads[path]]) {
-            levels[heads[path]] = reached;
-            raisedBy[heads[path]] = path;
-            raised = true;
-          }
+        if (isFresh[s]) {
+          isFresh[s] = false;
+          raised = raiseFrom(s) || raised;
+        }
+      }
+      return raised;
+    }
+
+    private boolean raiseFrom(int s) {
+      boolean raised = false;
+      long level = levels[s] - meanSum;
+      for (int path = firsts[s]; path < firsts[s + 1]; path++) {
+        long reached = level + works[path] * meanLength;
+        int head = heads[path];
+        if (reached > levels[head]) {
+          levels[head] = reached;
+          raisedBy[head] = path;
+          isFresh[head] = true;
+          raised = true;
         }
       }
       return raised;

@@ -58,6 +58,7 @@ public final class LoopsTest {
     best(x, 0, 2600, 0, 7, 4, 17, 17);
     Due.windsAll(x, 0, 12, 12);
     best(x, 0, 3744, 0, 7, 4, 17, 17);
+    best(Due.kite("across 6;high 6;rope 8;"), 23, 2600, 0, 7, 4, 17, 17);
     lossOnly();
   }
 

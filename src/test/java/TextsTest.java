@@ -8,6 +8,8 @@ public final class TextsTest {
     theTape();
     kites();
     kiteFaults();
+    staleBytes();
+    fullTape();
     kiteForgets();
     rules();
     ruleFaults();
@@ -174,12 +176,45 @@ public final class TextsTest {
     DUE.is(6, "fault(-1)", x.fault(-1), KitePower.NONE);
   }
 
+  private static void cut(String text, int length, int answer, int place) {
+    KitePower x = Due.tape(new KitePower(), text);
+    x.end(length);
+    DUE.is(4, "kite() of " + length + " of '" + text + "'", x.kite(), answer);
+    DUE.is(6, "fault(1) of " + length + " of '" + text + "'", x.fault(1), place);
+  }
+
+  /** What stood on the tape behind its end is not read. */
+  private static void staleBytes() {
+    cut("rope 3;high", 7, 1, KitePower.NONE);
+    cut("rope 33;", 6, KitePower.NONE, 6);
+    cut("rope   ", 4, KitePower.NONE, 4);
+    cut("rope 3;rope", 9, KitePower.NONE, 7);
+    cut("rope 3; ;", 8, 1, KitePower.NONE);
+    cut("unit 111;", 7, KitePower.NONE, 7);
+  }
+
+  private static void fullTape() {
+    KitePower x = new KitePower();
+    DUE.is(4, "800 bytes", Due.tape(x, " ".repeat(793) + "rope 3;").kite(), 1);
+    DUE.is(4, "blanks behind", Due.tape(x, "rope 3;" + "\n".repeat(793)).kite(), 1);
+    DUE.is(4, "800 letters", Due.tape(x, "a".repeat(800)).kite(), KitePower.NONE);
+    DUE.is(6, "fault(1)", x.fault(1), 0);
+    DUE.is(4, "a number at the end", Due.tape(x, " ".repeat(794) + "rope 3").kite(), KitePower.NONE);
+    DUE.is(6, "fault(1)", x.fault(1), 800);
+    DUE.is(4, "a word at the end", Due.tape(x, " ".repeat(796) + "rope").kite(), KitePower.NONE);
+    DUE.is(6, "fault(1)", x.fault(1), 800);
+  }
+
   private static void kiteForgets() {
     KitePower x = new KitePower();
     Due.rules(x, "when rope is 0 do 0 stay out;");
-    Due.keep(x, 2, 0, 0);
+    for (int i = 0; i < 6; i++) {
+      Due.keep(x, i, 0, 1, 17);
+    }
     x.stand(0, 2);
-    x.field();
+    x.stand(1, 2);
+    x.stand(2, 2);
+    DUE.is(30, "field()", x.field(), 1600);
     x.read(7, 0, 0, 0, 0, 5);
     x.right(8, 0, 0, 6);
     x.wind(3, 0, 0, 4, 5);
@@ -188,13 +223,16 @@ public final class TextsTest {
     x.hidden(3);
     DUE.is(4, "a kite with a fault", Due.tape(x, "x").kite(), KitePower.NONE);
     DUE.is(4, "lines stay", x.told(11), 1);
-    DUE.is(4, "loops stay", x.count(12), 1);
-    DUE.is(4, "stands stay", x.count(2), 1);
+    DUE.is(4, "loops stay", x.count(12), 2);
+    DUE.is(4, "stands stay", x.count(2), 3);
+    DUE.is(31, "the field stays", x.fielded(), 5);
     DUE.is(4, "readings stay", x.count(4), 1);
-    DUE.is(19, "keep(5) behind a fault", x.keep(5), 1);
+    DUE.is(19, "keep(5) behind a fault", x.keep(5), 2);
     DUE.is(4, "kite()", Due.tape(x, "").kite(), 0);
     DUE.is(4, "lines", x.told(11), 0);
-    DUE.is(4, "loops", x.count(12), 0);
+    for (int i = 10; i < 16; i++) {
+      DUE.is(4, "loops", x.count(i), 0);
+    }
     DUE.is(4, "stands", x.count(2), 0);
     DUE.is(31, "fielded()", x.fielded(), 0);
     DUE.is(30, "field()", x.field(), 0);
@@ -208,6 +246,14 @@ public final class TextsTest {
     DUE.is(4, "tired stays", x.count(6), 9);
     DUE.is(4, "hidden stays", x.hidden(3), 3);
     DUE.is(36, "the step of READ is 0", x.read(0, 0, 0, 0, 0, 5), 0);
+    Due.windsAll(x, 0, 10, 10);
+    x.wind(3, 0, 0, 10, 10);
+    Due.keep(x, 0, 0, 1, 17);
+    x.stand(0, 0);
+    x.stand(20, 0);
+    x.stand(40, 0);
+    DUE.is(30, "another field", x.field(), 2400);
+    DUE.is(31, "fielded()", x.fielded(), 7);
   }
 
   private static void rules() {
