@@ -297,9 +297,12 @@ final class RandomRun {
     StringBuilder text = new StringBuilder();
     int side = largest > 60 ? 6 : 3;
     int longest = largest > 60 ? 8 : 4;
+    // with little between weight and mark loops are few, and may all lose
+    boolean narrow = random.nextInt(4) == 0;
     String[] clauses = {"across" + gap() + number(2, side), "high" + gap() + number(2, side),
         "rope" + gap() + number(2, longest), "unit" + gap() + number(5, 50),
-        "weight" + gap() + number(0, 900), "mark" + gap() + number(1000, 40000),
+        "weight" + gap() + (narrow ? number(300, 1000) : number(0, 900)),
+        "mark" + gap() + (narrow ? number(900, 1500) : number(1000, 40000)),
         "loss" + gap() + number(0, random.nextBoolean() ? 9999 : 200),
         "reel" + gap() + number(0, 400), "cross" + gap() + number(100, 400),
         "tire" + gap() + number(0, 3000), "lift" + numbers(3, random.nextBoolean() ? 99 : 12),
