@@ -3,9 +3,29 @@ final class Due {
   int wrong = 0;
   int asked = 0;
   private final String name;
+  private String sentence = "";
+  private int askedBefore = 0;
 
   Due(String name) {
     this.name = name;
+  }
+
+  /** The sentence of the document that the answers to come are due by. */
+  void by(String words) {
+    if (!sentence.isEmpty() && asked == askedBefore) {
+      wrong++;
+      System.out.println("no test of: " + sentence);
+    }
+    sentence = words;
+    askedBefore = asked;
+  }
+
+  void is(String call, int got, int want) {
+    asked++;
+    if (got != want) {
+      wrong++;
+      System.out.println(sentence + ": " + call + " answered " + got + ", due is " + want);
+    }
   }
 
   void is(int promise, String call, int got, int want) {
@@ -17,6 +37,7 @@ final class Due {
   }
 
   void end() {
+    by("");
     System.out.println(name + ": " + asked + " answers, " + wrong + " not as due");
     if (wrong != 0) {
       System.exit(1);
