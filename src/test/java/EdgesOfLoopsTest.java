@@ -93,6 +93,14 @@ public final class EdgesOfLoopsTest {
     DUE.is("the best twice over", Due.judge(x, 0, 0, 7, 4, 17, 17, 7, 4, 17, 17), 8);
     DUE.is("is a LOOP with the same MEAN", x.judged(1) - x.judged(2), 5200);
     best(x, 0, 2600, 0, 7, 4, 17, 17);
+    // in BAND 0 but the way right and left again bears the KITE; above it to hold does too
+    KitePower low = Due.kite("across 2;high 2;rope 2;unit 50;cross 400;weight 2000;loss 9999;");
+    low.wind(0, 0, 1, 20, 20);
+    low.wind(0, 0, 2, 20, 20);
+    DUE.is("2 ACTS from STATE 0", Due.judge(low, 0, 0, 6, 3), 2);
+    DUE.is("judged(4)", low.judged(4), 1);
+    DUE.is("1 ACT from STATE 0", Due.judge(low, 0, 0, 0), 0);
+    best(low, 0, 0, 2, 0);
   }
 
   private static void leastState() {

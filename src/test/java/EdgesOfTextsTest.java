@@ -10,6 +10,7 @@ public final class EdgesOfTextsTest {
   private static final String LINE = "when row is 0 do 0 up in;";
 
   public static void main(String[] args) {
+    constants();
     tapeFull();
     tapeEmptied();
     tapeLeft();
@@ -71,6 +72,14 @@ public final class EdgesOfTextsTest {
     DUE.is("rules() of '" + text + "'", Due.rules(x, text), NONE);
     DUE.is("fault(0) of '" + text + "'", x.fault(0), kind);
     DUE.is("fault(1) of '" + text + "'", x.fault(1), place);
+  }
+
+  private static void constants() {
+    DUE.by("The constants: NONE = -1, RANGE = -2, FULL = -3, STATE = -4");
+    DUE.is("NONE", KitePower.NONE, -1);
+    DUE.is("RANGE", KitePower.RANGE, -2);
+    DUE.is("FULL", KitePower.FULL, -3);
+    DUE.is("STATE", KitePower.STATE, -4);
   }
 
   // ---- the tape
@@ -151,7 +160,7 @@ public final class EdgesOfTextsTest {
   }
 
   private static void feedOrder() {
-    DUE.by("Twenty bytes come behind THE TAPE, the highest byte of each int first");
+    DUE.by("Twenty bytes come behind THE TAPE, the highest of each int first");
     for (int i = 0; i < 40; i++) {
       int at = i;
       KitePower x = house();
