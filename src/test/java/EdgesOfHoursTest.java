@@ -150,6 +150,8 @@ public final class EdgesOfHoursTest {
     planned(x, 6, 1, 1, 1);
     DUE.is("nothing at all", x.plan(5, 5, 60, 0, 0, 0), 0);
     planned(x, 5, 0);
+    DUE.is("a LOOP of one ACT is no fall", x.plan(6, 8, 1, 1, 1, 1000000), 1298);
+    planned(x, 6, 1, 1, 1);
     KitePower calm = calm(1, 3);
     DUE.is("one flight or three, or none", calm.plan(0, 4, 1, 400, 250, 650), 0);
     planned(calm, 0, 0, 0, 0, 0, 0);
@@ -425,6 +427,10 @@ public final class EdgesOfHoursTest {
     }
     DUE.is("all below 0", losing.field(), 0);
     DUE.is("none of them", losing.fielded(), 0);
+    x.stand(0, 0);
+    x.stand(1, 0);
+    DUE.is("three that MEET, worth 0", x.field(), 0);
+    DUE.is("none of them", x.fielded(), 0);
   }
 
   private static void fieldGood() {

@@ -367,6 +367,12 @@ public final class EdgesOfReadingsTest {
     cut.right(0, 0, 150, 9999);
     // winds 4, 5, 6 are left: parted by all in heaps of 4 and 3
     DUE.is("the least of those that part as well", cut.next(0, 0), 0);
+    KitePower back = Due.kite("lift 2 99 1;window 10;");
+    back.wind(0, 0, 0, 3, 3);
+    DUE.is("a heap of 10 by SLANT 0, 4 by 1, 13 by 2", back.next(0, 0), 15);
+    KitePower first = Due.kite("lift 99 2 1;window 10;");
+    first.wind(0, 0, 0, 3, 3);
+    DUE.is("a heap of 4 by SLANT 0, 10 by 1, 13 by 2", first.next(0, 0), 0);
   }
 
   private static void nextNone() {
@@ -432,6 +438,7 @@ public final class EdgesOfReadingsTest {
     DUE.is("count(4)", x.count(4), 0);
     DUE.is("fit(999)", x.fit(999), ALL);
     DUE.is("none to put RIGHT", x.right(0, 0, 0, 0), RANGE);
+    DUE.is("step -1", x.read(-1, 0, 0, 0, 40, 99999999), RANGE);
     DUE.is("step 0", x.read(0, 0, 0, 0, 40, 99999999), 0);
     DUE.is("put RIGHT by none of before", x.fit(999), ALL & -4);
     DUE.is("how often it was", x.right(0, 0, 90, 99999999), 1);

@@ -19,6 +19,7 @@ public final class EdgesOfTextsTest {
     blanks();
     bytesAlone();
     bytesBetween();
+    bytesAsSemicolon();
     words();
     numbers();
     bounds();
@@ -237,6 +238,23 @@ public final class EdgesOfTextsTest {
         kiteFault(text, 2, 4);
       } else {
         kiteFault(text, 1, b >= 'a' && b <= 'z' ? 0 : 4);
+      }
+    }
+  }
+
+  private static void bytesAsSemicolon() {
+    DUE.by("{clause \";\"} / a byte that is none: of 256 bytes where a semicolon is due");
+    for (int b = 0; b < 256; b++) {
+      boolean isBlank = b == 32 || b == 10;
+      boolean isDigit = b >= '0' && b <= '9';
+      String kite = "rope 3" + (char) b;
+      String rules = "when row is 0 do 0 up in" + (char) b;
+      if (b == ';') {
+        kite(kite, 1);
+        rules(rules, 1);
+      } else {
+        kiteFault(kite, isDigit ? 2 : 1, isDigit ? 5 : isBlank ? 7 : 6);
+        rulesFault(rules, 1, b >= 'a' && b <= 'z' ? 22 : isBlank ? 25 : 24);
       }
     }
   }
@@ -581,8 +599,13 @@ public final class EdgesOfTextsTest {
     faults(x, 3, 7);
     Due.rules(x, LINE.repeat(9));
     faults(x, 4, 200);
+    noOtherFaults(x);
     Due.tape(x, "").kite();
     faults(x, 0, NONE);
+    noOtherFaults(x);
+  }
+
+  private static void noOtherFaults(KitePower x) {
     for (int what : new int[] {2, -1, 10, Integer.MIN_VALUE, Integer.MAX_VALUE}) {
       DUE.is("fault(" + what + ")", x.fault(what), NONE);
     }
